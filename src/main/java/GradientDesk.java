@@ -39,6 +39,7 @@ public final class GradientDesk {
     private int fault;
     private final int[] names;
     private final Fraction[] results;
+    private final Divider divider;
     private final Reckoner reckoner;
     private final Shelf shelf;
     private final Grammar grammar;
@@ -56,11 +57,12 @@ public final class GradientDesk {
         for (int r = 0; r < RESULTS; r++) {
             results[r] = new Fraction(RESULT_DIGITS);
         }
+        divider = new Divider();
         reckoner = new Reckoner();
-        shelf = new Shelf(reckoner);
+        shelf = new Shelf(reckoner, divider);
         grammar = new Grammar();
         maker = new Maker(shelf);
-        slopes = new Slopes(shelf, reckoner);
+        slopes = new Slopes(shelf, divider);
         scribe = new Scribe(shelf);
     }
 
@@ -167,7 +169,7 @@ public final class GradientDesk {
         needName(name);
         needExpression(name);
         for (int v = 0; v < VARIABLES; v++) {
-            slopes.work(names[name], v == 0 ? 1 : 0, v == 1 ? 1 : 0, v == 2 ? 1 : 0);
+            slopes.workOut(names[name], v == 0 ? 1 : 0, v == 1 ? 1 : 0, v == 2 ? 1 : 0);
             slopes.giveSlope(names[name], results[1 + v]);
         }
         slopes.giveValue(names[name], results[0]);
@@ -180,7 +182,7 @@ public final class GradientDesk {
             throw new IllegalArgumentException();
         }
         needExpression(name);
-        slopes.work(names[name], x, y, z);
+        slopes.workOut(names[name], x, y, z);
         slopes.giveValue(names[name], results[4]);
         slopes.giveSlope(names[name], results[5]);
     }
@@ -201,6 +203,7 @@ public final class GradientDesk {
         } else {
             reckoner.add(results[i], results[j], what == 0 ? 1 : -1);
         }
+        divider.reduce(reckoner.answer);
         results[r].copy(reckoner.answer);
         return true;
     }
@@ -294,6 +297,17 @@ public final class GradientDesk {
         return x >= -999 && x <= 999;
     }
 
+    private static long findSmallCommon(long x, long y) {
+        long high = x;
+        long low = y;
+        for (int step = 0; step < 1000 && low != 0; step++) {
+            long rest = high % low;
+            high = low;
+            low = rest;
+        }
+        return high;
+    }
+
     private static boolean isTooLongToReckon(Fraction x) {
         return x.p.countBits() > MOST_BITS_TO_RECKON || x.q.countBits() > MOST_BITS_TO_RECKON;
     }
@@ -362,6 +376,13 @@ public final class GradientDesk {
             System.arraycopy(x.digits, 0, digits, 0, size);
         }
 
+        /** The sign stays, but for 0. */
+        void copySize(Whole x) {
+            int before = sign;
+            copy(x);
+            sign = x.size == 0 ? 0 : before;
+        }
+
         int digitAt(int i) {
             return i >= 0 && i < size ? digits[i] : 0;
         }
@@ -371,8 +392,10 @@ public final class GradientDesk {
         }
 
         /** The size as a long; only for what has two digits at most. */
-        long low() {
-            return (long) digitAt(1) << DIGIT_BITS | digitAt(0);
+        long asLong() {
+            long upper = size > 1 ? digits[1] : 0;
+            long lower = size > 0 ? digits[0] : 0;
+            return upper << DIGIT_BITS | lower;
         }
 
         int countBits() {
@@ -394,49 +417,59 @@ public final class GradientDesk {
                 return size < x.size ? -1 : 1;
             }
             for (int i = size - 1; i >= 0; i--) {
-                if (digits[i] != x.digitAt(i)) {
-                    return digits[i] < x.digitAt(i) ? -1 : 1;
+                if (digits[i] != x.digits[i]) {
+                    return digits[i] < x.digits[i] ? -1 : 1;
                 }
             }
             return 0;
         }
 
-        boolean isSame(Whole x) {
-            return sign == x.sign && compareSize(x) == 0;
-        }
-
         /** Neither x nor y may be this number. */
         void becomeProduct(Whole x, Whole y) {
-            int n = Math.min(x.size + y.size, digits.length);
-            Arrays.fill(digits, 0, n, 0);
-            for (int i = 0; i < x.size && i < n; i++) {
+            sign = x.sign * y.sign;
+            size = sign == 0 ? 0 : Math.min(x.size + y.size, digits.length);
+            for (int i = 0; i < size; i++) {
+                digits[i] = 0;
+            }
+            for (int i = 0; i < x.size && i < size; i++) {
                 long factor = x.digits[i];
                 long carry = 0;
-                int last = Math.min(y.size, n - i);
+                int last = Math.min(y.size, size - i);
                 for (int j = 0; j < last; j++) {
-                    long sum = factor * y.digits[j] + digits[i + j] + carry;
-                    digits[i + j] = (int) sum & DIGIT_MASK;
-                    carry = sum >>> DIGIT_BITS;
+                    carry += factor * y.digits[j] + digits[i + j];
+                    digits[i + j] = (int) carry & DIGIT_MASK;
+                    carry >>>= DIGIT_BITS;
                 }
-                if (i + last < n) {
+                if (i + last < size) {
                     digits[i + last] = (int) carry;
                 }
             }
-            sign = x.sign * y.sign;
-            size = n;
-            trim();
+            if (size > 0 && digits[size - 1] == 0) {
+                size--;
+            }
         }
 
-        /** n is 0 or more. */
+        /** The row work is for what is under way; x may not be this number or work. */
+        void becomePower(Whole x, int exponent, Whole work) {
+            become(1);
+            for (int k = 0; k < exponent; k++) {
+                work.becomeProduct(this, x);
+                copy(work);
+            }
+        }
+
+        /** n is above 0. */
         void multiplySmall(int n) {
             long carry = 0;
             for (int i = 0; i < size; i++) {
-                long sum = (long) digits[i] * n + carry;
-                digits[i] = (int) sum & DIGIT_MASK;
-                carry = sum >>> DIGIT_BITS;
+                carry += (long) digits[i] * n;
+                digits[i] = (int) carry & DIGIT_MASK;
+                carry >>>= DIGIT_BITS;
             }
-            pushDigit((int) carry);
-            trim();
+            if (carry > 0 && size < digits.length) {
+                digits[size] = (int) carry;
+                size++;
+            }
         }
 
         /** Becomes the quotient by n, which is above 0; answers what is left. */
@@ -460,43 +493,37 @@ public final class GradientDesk {
             } else if (sign == x.sign) {
                 addSize(x);
             } else if (x.sign != 0) {
-                subtractSize(x);
+                subtractSize(x, compareSize(x) < 0);
+                trim();
             }
         }
 
         private void addSize(Whole x) {
             int carry = 0;
-            int n = Math.min(Math.max(size, x.size), digits.length);
+            int n = Math.min(Math.max(size, x.size) + 1, digits.length);
             for (int i = 0; i < n; i++) {
-                long sum = (long) digitAt(i) + x.digitAt(i) + carry;
+                long sum = carry;
+                sum += i < size ? digits[i] : 0;
+                sum += i < x.size ? x.digits[i] : 0;
                 digits[i] = (int) sum & DIGIT_MASK;
                 carry = (int) (sum >>> DIGIT_BITS);
             }
-            size = n;
-            pushDigit(carry);
+            size = n > 0 && digits[n - 1] == 0 ? n - 1 : n;
         }
 
         /** The lesser size is taken from the greater one, which gives the sign. */
-        private void subtractSize(Whole x) {
-            boolean turned = compareSize(x) < 0;
+        private void subtractSize(Whole x, boolean turned) {
             int borrow = 0;
             int n = Math.min(Math.max(size, x.size), digits.length);
             for (int i = 0; i < n; i++) {
-                int difference = turned ? x.digitAt(i) - digitAt(i) : digitAt(i) - x.digitAt(i);
-                difference -= borrow;
-                borrow = difference < 0 ? 1 : 0;
+                int own = i < size ? digits[i] : 0;
+                int other = i < x.size ? x.digits[i] : 0;
+                int difference = (turned ? other - own : own - other) - borrow;
                 digits[i] = difference & DIGIT_MASK;
+                borrow = difference < 0 ? 1 : 0;
             }
             sign = turned ? x.sign : sign;
             size = n;
-            trim();
-        }
-
-        private void pushDigit(int digit) {
-            if (digit != 0 && size < digits.length) {
-                digits[size] = digit;
-                size++;
-            }
         }
 
         void trim() {
@@ -506,25 +533,25 @@ public final class GradientDesk {
             sign = size == 0 ? 0 : sign;
         }
 
-        /** Becomes the size of x, its bits moved up by fewer than a digit has. */
+        /** Becomes the size of x, its bits moved up by fewer than a digit has, with a digit more. */
         void becomeRaised(Whole x, int shift) {
-            int n = Math.min(x.size + 1, digits.length);
-            long carry = 0;
-            for (int i = 0; i < n; i++) {
-                long moved = (long) x.digitAt(i) << shift | carry;
-                digits[i] = (int) moved & DIGIT_MASK;
-                carry = moved >>> DIGIT_BITS;
-            }
             sign = 1;
-            size = n;
+            size = Math.min(x.size + 1, digits.length);
+            long carry = 0;
+            for (int i = 0; i < size; i++) {
+                long digit = i < x.size ? x.digits[i] : 0;
+                carry |= digit << shift;
+                digits[i] = (int) carry & DIGIT_MASK;
+                carry >>>= DIGIT_BITS;
+            }
         }
 
+        /** Moves the bits down; whoever asks for it trims. */
         void lower(int shift) {
             for (int i = 0; i < size; i++) {
-                long two = (long) digitAt(i + 1) << DIGIT_BITS | digits[i];
-                digits[i] = (int) (two >>> shift) & DIGIT_MASK;
+                long above = i + 1 < size ? digits[i + 1] : 0;
+                digits[i] = (int) ((above << DIGIT_BITS | digits[i]) >>> shift) & DIGIT_MASK;
             }
-            trim();
         }
     }
 
@@ -550,7 +577,7 @@ public final class GradientDesk {
         }
 
         boolean isSame(Fraction x) {
-            return p.isSame(x.p) && q.isSame(x.q);
+            return p.sign == x.p.sign && p.compareSize(x.p) == 0 && q.compareSize(x.q) == 0;
         }
 
         boolean isZero() {
@@ -567,57 +594,118 @@ public final class GradientDesk {
         /** Far above the steps that numbers of 4,092 bits can need. */
         private static final int MOST_STEPS = 100000;
 
-        final Whole quotient = new Whole(WORK_DIGITS + 1);
-        final Whole rest = new Whole(WORK_DIGITS + 1);
+        private final Whole quotient = new Whole(WORK_DIGITS + 1);
+        private final Whole rest = new Whole(WORK_DIGITS + 1);
         private final Whole divisor = new Whole(WORK_DIGITS + 1);
         private Whole high = new Whole(WORK_DIGITS + 1);
         private Whole low = new Whole(WORK_DIGITS + 1);
 
-        /** Divides both by their greatest common divisor; q is above 0. */
-        void reduce(Whole p, Whole q) {
-            if (p.sign == 0) {
-                q.become(1);
-                return;
-            }
-            findCommon(p, q);
-            if (high.isOne()) {
-                return;
-            }
-            shrink(p);
-            shrink(q);
-        }
-
-        private void shrink(Whole x) {
-            int sign = x.sign;
-            divide(x, high);
-            x.copy(quotient);
-            x.sign = sign;
-        }
-
-        /** Leaves the greatest common divisor in high. */
-        private void findCommon(Whole x, Whole y) {
-            high.copy(x);
-            low.copy(y);
-            high.sign = 1;
+        /** Takes the greatest common divisor out of p and q, by Euclid's steps. */
+        void reduce(Fraction x) {
+            begin(x.p, x.q);
             for (int step = 0; step < MOST_STEPS && low.size > 0; step++) {
-                if (high.size <= 2 && low.size <= 2) {
-                    high.become(findSmallCommon(high.low(), low.low()));
-                    return;
+                if (high.size <= 2) {
+                    endSmall();
+                } else if (!leap()) {
+                    divide(high, low);
+                    turn();
                 }
-                divide(high, low);
-                high.copy(rest);
-                Whole other = high;
-                high = low;
-                low = other;
+            }
+            if (!high.isOne()) {
+                divide(x.p, high);
+                x.p.copySize(quotient);
+                divide(x.q, high);
+                x.q.copySize(quotient);
+            }
+        }
+
+        /** The greater size comes into high. */
+        private void begin(Whole x, Whole y) {
+            boolean turned = x.compareSize(y) < 0;
+            high.copy(turned ? y : x);
+            low.copy(turned ? x : y);
+            high.sign = Math.abs(high.sign);
+            low.sign = Math.abs(low.sign);
+        }
+
+        private void endSmall() {
+            high.become(findSmallCommon(high.asLong(), low.asLong()));
+            low.become(0);
+        }
+
+        private void turn() {
+            high.copy(rest);
+            Whole other = high;
+            high = low;
+            low = other;
+        }
+
+        /**
+         * Lehmer's leap: as many of Euclid's steps as the highest bits of both settle, at once; for
+         * a division of long numbers at each step is dear. Answers whether there was one at least.
+         */
+        private boolean leap() {
+            int shift = Integer.numberOfLeadingZeros(high.digitAt(high.size - 1)) - 1;
+            long x = highestBits(high, shift);
+            long y = highestBits(low, shift);
+            long a = 1;
+            long b = 0;
+            long c = 0;
+            long d = 1;
+            for (int step = 0; step < MOST_STEPS && y + c != 0 && y + d != 0; step++) {
+                long times = (x + a) / (y + c);
+                if (times != (x + b) / (y + d)) {
+                    break;
+                }
+                long next = a - times * c;
+                a = c;
+                c = next;
+                next = b - times * d;
+                b = d;
+                d = next;
+                next = x - times * y;
+                x = y;
+                y = next;
+            }
+            if (b == 0) {
+                return false;
+            }
+            combine(a, b, c, d);
+            high.trim();
+            low.trim();
+            return true;
+        }
+
+        /** A digit's worth of bits, for both numbers from where the higher one begins. */
+        private long highestBits(Whole x, int shift) {
+            int top = high.size - 1;
+            long two = (long) x.digitAt(top) << DIGIT_BITS | x.digitAt(top - 1);
+            return two >>> (DIGIT_BITS - shift);
+        }
+
+        /** high becomes a high + b low, and low c high + d low, both 0 or more. */
+        private void combine(long a, long b, long c, long d) {
+            int lowSize = low.size;
+            low.size = high.size;
+            long highCarry = 0;
+            long lowCarry = 0;
+            for (int i = 0; i < high.size; i++) {
+                long x = high.digits[i];
+                long y = i < lowSize ? low.digits[i] : 0;
+                highCarry += a * x + b * y;
+                lowCarry += c * x + d * y;
+                high.digits[i] = (int) highCarry & DIGIT_MASK;
+                low.digits[i] = (int) lowCarry & DIGIT_MASK;
+                highCarry >>= DIGIT_BITS;
+                lowCarry >>= DIGIT_BITS;
             }
         }
 
         /** The quotient and the rest of the sizes; y is not 0. */
-        void divide(Whole x, Whole y) {
+        private void divide(Whole x, Whole y) {
             if (y.size < 2) {
                 quotient.copy(x);
                 rest.become(quotient.divideSmall(y.digitAt(0)));
-                quotient.trim();
                 return;
             }
             int shift = Integer.numberOfLeadingZeros(y.digitAt(y.size - 1)) - 1;
@@ -627,82 +715,74 @@ public final class GradientDesk {
             quotient.sign = 1;
             quotient.size = Math.max(0, x.size - y.size + 1);
             for (int k = quotient.size - 1; k >= 0; k--) {
-                quotient.digits[k] = takeAway(k, guessDigit(k));
+                int times = guessDigit(k);
+                if (!takeAway(k, times)) {
+                    giveBack(k);
+                    times--;
+                }
+                quotient.digits[k] = times;
             }
             quotient.trim();
-            rest.trim();
             rest.lower(shift);
+            rest.trim();
         }
 
-        /** Knuth's guess from the two highest digits: right, or one too much. */
-        private long guessDigit(int k) {
+        /** Knuth's guess from the highest digits: right, or one too much. */
+        private int guessDigit(int k) {
             int n = divisor.size;
-            long top = divisor.digitAt(n - 1);
-            if (top == 0) {
+            if (n < 2 || k + n >= rest.size || divisor.digits[n - 1] == 0) {
                 return 0;
             }
-            long two = (long) rest.digitAt(k + n) << DIGIT_BITS | rest.digitAt(k + n - 1);
-            long guess = two / top;
-            long left = two % top;
-            for (int turn = 0; turn < 3; turn++) {
-                boolean tooMuch = guess > DIGIT_MASK || guess * divisor.digitAt(n - 2)
-                        > (left << DIGIT_BITS | rest.digitAt(k + n - 2));
-                if (!tooMuch || left > DIGIT_MASK) {
-                    break;
+            long top = divisor.digits[n - 1];
+            long second = divisor.digits[n - 2];
+            long two = (long) rest.digits[k + n] << DIGIT_BITS | rest.digits[k + n - 1];
+            long third = rest.digits[k + n - 2];
+            long guess = Math.min(two / top, DIGIT_MASK);
+            long left = two - guess * top;
+            // Knuth shows that two turns are enough.
+            for (int turn = 0; turn < 2; turn++) {
+                if (left <= DIGIT_MASK && guess * second > (left << DIGIT_BITS | third)) {
+                    guess--;
+                    left += top;
                 }
-                guess--;
-                left += top;
             }
-            return guess;
+            return (int) guess;
         }
 
-        /** Takes the divisor that often from the rest, k digits up; answers how often it went. */
-        private int takeAway(int k, long guess) {
+        /** Takes the divisor that often from the rest, k digits up; answers whether it was there. */
+        private boolean takeAway(int k, long times) {
             long carry = 0;
             int n = divisor.size;
             for (int i = 0; i < n && i + k < rest.size; i++) {
-                long difference = rest.digits[i + k] - guess * divisor.digits[i] + carry;
-                rest.digits[i + k] = (int) difference & DIGIT_MASK;
-                carry = difference >> DIGIT_BITS;
+                carry += rest.digits[i + k] - times * divisor.digits[i];
+                rest.digits[i + k] = (int) carry & DIGIT_MASK;
+                carry >>= DIGIT_BITS;
             }
             if (n + k < rest.size) {
                 carry += rest.digits[n + k];
                 rest.digits[n + k] = 0;
             }
-            if (carry < 0) {
-                giveBack(k);
-                return (int) guess - 1;
-            }
-            return (int) guess;
+            return carry >= 0;
         }
 
         private void giveBack(int k) {
-            int carry = 0;
+            long carry = 0;
             for (int i = 0; i < divisor.size && i + k < rest.size; i++) {
-                long sum = (long) rest.digits[i + k] + divisor.digits[i] + carry;
-                rest.digits[i + k] = (int) sum & DIGIT_MASK;
-                carry = (int) (sum >>> DIGIT_BITS);
+                carry += (long) rest.digits[i + k] + divisor.digits[i];
+                rest.digits[i + k] = (int) carry & DIGIT_MASK;
+                carry >>= DIGIT_BITS;
             }
         }
     }
 
-    private static long findSmallCommon(long x, long y) {
-        long high = x;
-        long low = y;
-        for (int step = 0; step < 1000 && low != 0; step++) {
-            long rest = high % low;
-            high = low;
-            low = rest;
-        }
-        return high;
-    }
-
-    /** Reckons with fractions; what comes out stands in answer. */
+    /**
+     * Reckons with fractions; what comes out stands in answer. A sum or product may still have a
+     * common divisor: whoever asks for it lets the divider reduce it.
+     */
     private static final class Reckoner {
         final Fraction answer = new Fraction(WORK_DIGITS);
         private final Whole left = new Whole(WORK_DIGITS);
         private final Whole right = new Whole(WORK_DIGITS);
-        private final Divider divider = new Divider();
 
         void add(Fraction x, Fraction y, int sign) {
             answer.p.becomeProduct(x.p, y.q);
@@ -710,38 +790,17 @@ public final class GradientDesk {
             right.sign *= sign;
             answer.p.add(right);
             answer.q.becomeProduct(x.q, y.q);
-            divider.reduce(answer.p, answer.q);
         }
 
         void multiply(Fraction x, Fraction y) {
             answer.p.becomeProduct(x.p, y.p);
             answer.q.becomeProduct(x.q, y.q);
-            divider.reduce(answer.p, answer.q);
         }
 
         /** A power has no common divisor where x has none. */
         void raise(Fraction x, int exponent) {
-            raiseWhole(answer.p, x.p, exponent);
-            raiseWhole(answer.q, x.q, exponent);
-        }
-
-        void raiseWhole(Whole target, Whole x, int exponent) {
-            target.become(1);
-            for (int k = 0; k < exponent; k++) {
-                left.becomeProduct(target, x);
-                target.copy(left);
-            }
-        }
-
-        void take(Whole p, Whole q) {
-            answer.p.copy(p);
-            answer.q.copy(q);
-            divider.reduce(answer.p, answer.q);
-        }
-
-        void takeSmall(int p, int q) {
-            answer.become(p, q);
-            divider.reduce(answer.p, answer.q);
+            answer.p.becomePower(x.p, exponent, left);
+            answer.q.becomePower(x.q, exponent, left);
         }
 
         int order(Fraction x, Fraction y) {
@@ -774,16 +833,22 @@ public final class GradientDesk {
         final boolean[] marked = new boolean[PARTS];
         private final int[] derivatives = new int[PARTS];
         private final Reckoner reckoner;
+        private final Divider divider;
 
-        Shelf(Reckoner reckoner) {
+        Shelf(Reckoner reckoner, Divider divider) {
             this.reckoner = reckoner;
+            this.divider = divider;
             for (int i = 0; i < PARTS; i++) {
                 row[i] = new Part();
             }
         }
 
+        /** q is above 0. */
         int makeNumber(int p, int q) {
-            reckoner.takeSmall(p, q);
+            int common = (int) findSmallCommon(q, Math.abs(p));
+            if (common > 0) {
+                reckoner.answer.become(p / common, q / common);
+            }
             return putNumber();
         }
 
@@ -799,6 +864,7 @@ public final class GradientDesk {
             Part b = row[y];
             if (a.sort == NUMBER && b.sort == NUMBER) {
                 reckoner.add(a.fraction, b.fraction, 1);
+                divider.reduce(reckoner.answer);
                 return putNumber();
             }
             if (isZero(a)) {
@@ -819,6 +885,7 @@ public final class GradientDesk {
             Part b = row[y];
             if (a.sort == NUMBER && b.sort == NUMBER) {
                 reckoner.multiply(a.fraction, b.fraction);
+                divider.reduce(reckoner.answer);
                 return putNumber();
             }
             if (isZero(a) || isOne(b)) {
@@ -832,26 +899,17 @@ public final class GradientDesk {
         }
 
         int makePower(int x, int exponent) {
-            if (x < 0) {
-                return x;
-            }
-            if (exponent == 0) {
-                return makeNumber(1, 1);
-            }
-            if (exponent == 1) {
+            if (x < 0 || exponent == 1) {
                 return x;
             }
             Part a = row[x];
-            if (a.sort == NUMBER) {
+            // No factor at all gives the number 1, whatever x is.
+            if (a.sort == NUMBER || exponent == 0) {
                 reckoner.raise(a.fraction, exponent);
                 return putNumber();
             }
             return put(POWER, x, exponent, a.degree * exponent, exponent * (a.upperSize + 8),
                     exponent * a.lowerSize);
-        }
-
-        int makeNegative(int x) {
-            return x < 0 ? x : makeProduct(makeNumber(-1, 1), x);
         }
 
         int makeDerivative(int root, int variable) {
@@ -888,8 +946,9 @@ public final class GradientDesk {
 
         /** Marks all parts that an expression has; answers how many. Operands have lesser numbers. */
         int mark(int root) {
-            Arrays.fill(marked, false);
-            marked[root] = true;
+            for (int i = 0; i <= root; i++) {
+                marked[i] = i == root;
+            }
             int found = 0;
             for (int i = root; i >= 0; i--) {
                 if (marked[i]) {
@@ -1100,11 +1159,14 @@ public final class GradientDesk {
                     pushOperand(shelf.makeVariable(c - 'a'));
                 } else if (isName(c)) {
                     pushOperand(names[c - 'A']);
+                } else if (c == '(' || factorDue) {
+                    pushOperator(c == '-' ? NEGATIVE : c);
                 } else {
+                    applyAll(rank(c));
                     takeOperator(c);
                 }
             }
-            applyFrom(1);
+            applyAll(rank(')'));
             return failure < 0 ? failure : popOperand();
         }
 
@@ -1129,52 +1191,39 @@ public final class GradientDesk {
         }
 
         private void takeOperator(char c) {
-            if (c == '(') {
-                pushOperator(c);
-            } else if (c == ')') {
-                applyFrom(1);
+            if (c == ')') {
                 operatorCount = Math.max(0, operatorCount - 1);
-            } else if (factorDue) {
-                pushOperator(NEGATIVE);
             } else {
-                applyFrom(rank(c));
                 pushOperator(c);
             }
         }
 
         /** Applies what waits behind the last open bracket and binds at least as much. */
-        private void applyFrom(int least) {
+        private void applyAll(int least) {
             while (operatorCount > 0 && failure == 0 && rank(operators[operatorCount - 1]) >= least) {
                 operatorCount--;
-                apply(operators[operatorCount]);
-            }
-        }
-
-        private void apply(char operator) {
-            int y = popOperand();
-            if (operator == NEGATIVE) {
-                pushOperand(shelf.makeNegative(y));
-                return;
-            }
-            int x = popOperand();
-            if (operator == '*') {
-                pushOperand(shelf.makeProduct(x, y));
-            } else {
-                pushOperand(shelf.makeSum(x, operator == '-' ? shelf.makeNegative(y) : y));
+                char operator = operators[operatorCount];
+                int y = popOperand();
+                if (operator == '-' || operator == NEGATIVE) {
+                    y = shelf.makeProduct(shelf.makeNumber(-1, 1), y);
+                }
+                if (operator == '*') {
+                    y = shelf.makeProduct(popOperand(), y);
+                } else if (operator != NEGATIVE) {
+                    y = shelf.makeSum(popOperand(), y);
+                }
+                pushOperand(y);
             }
         }
 
         private static int rank(char operator) {
-            switch (operator) {
-                case NEGATIVE:
-                    return 3;
-                case '*':
-                    return 2;
-                case '(':
-                    return 0;
-                default:
-                    return 1;
+            if (operator == NEGATIVE) {
+                return 3;
             }
+            if (operator == '*') {
+                return 2;
+            }
+            return operator == '(' ? 0 : 1;
         }
 
         private void pushOperand(int part) {
@@ -1211,7 +1260,7 @@ public final class GradientDesk {
      */
     private static final class Slopes {
         private final Shelf shelf;
-        private final Reckoner reckoner;
+        private final Divider divider;
         private final int[] pointUpper = new int[VARIABLES];
         private final int[] pointLower = new int[VARIABLES];
         private final int[] direction = new int[VARIABLES];
@@ -1222,9 +1271,9 @@ public final class GradientDesk {
         private final Whole factor = new Whole(SLOPE_DIGITS);
         private final Whole work = new Whole(SLOPE_DIGITS);
 
-        Slopes(Shelf shelf, Reckoner reckoner) {
+        Slopes(Shelf shelf, Divider divider) {
             this.shelf = shelf;
-            this.reckoner = reckoner;
+            this.divider = divider;
             Arrays.fill(pointLower, 1);
             for (int i = 0; i < PARTS; i++) {
                 values[i] = new Whole(SLOPE_DIGITS);
@@ -1243,7 +1292,7 @@ public final class GradientDesk {
         }
 
         /** Works out an expression and its slope along a direction. */
-        void work(int root, int x, int y, int z) {
+        void workOut(int root, int x, int y, int z) {
             direction[0] = x;
             direction[1] = y;
             direction[2] = z;
@@ -1268,8 +1317,9 @@ public final class GradientDesk {
             for (int v = 0; v < VARIABLES; v++) {
                 multiplyFactor(v, powers[root][v]);
             }
-            reckoner.take(upper, factor);
-            target.copy(reckoner.answer);
+            target.p.copy(upper);
+            target.q.copy(factor);
+            divider.reduce(target);
         }
 
         private void workPart(int i, Part part) {
@@ -1330,8 +1380,13 @@ public final class GradientDesk {
         }
 
         private void multiplyFactor(int v, int times) {
-            for (int k = 0; k < times; k++) {
-                factor.multiplySmall(pointLower[v]);
+            int q = pointLower[v];
+            if (q == 1) {
+                return;
+            }
+            // Two at a time fit in a digit too.
+            for (int k = times; k > 0; k -= 2) {
+                factor.multiplySmall(k == 1 ? q : q * q);
             }
         }
 
@@ -1350,8 +1405,8 @@ public final class GradientDesk {
             for (int v = 0; v < VARIABLES; v++) {
                 powers[i][v] = powers[x][v] * exponent;
             }
-            reckoner.raiseWhole(scales[i], scales[x], exponent);
-            reckoner.raiseWhole(work, values[x], exponent - 1);
+            scales[i].becomePower(scales[x], exponent, work);
+            work.becomePower(values[x], exponent - 1, factor);
             values[i].becomeProduct(work, values[x]);
             slopes[i].becomeProduct(work, slopes[x]);
             slopes[i].multiplySmall(exponent);

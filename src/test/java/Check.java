@@ -86,6 +86,33 @@ final class Check {
         return out.toString();
     }
 
+    /** All parts in their order, from part() and number() alone; uses result 7. */
+    static String shelf(GradientDesk desk) {
+        StringBuilder out = new StringBuilder();
+        for (int i = 0; i < desk.made(); i++) {
+            out.append(i == 0 ? "" : " ").append(shelfPart(desk, i));
+        }
+        return out.toString();
+    }
+
+    private static String shelfPart(GradientDesk desk, int i) {
+        int first = desk.part(i, 1);
+        int second = desk.part(i, 2);
+        switch (desk.part(i, 0)) {
+            case 0:
+                desk.number(i, 7);
+                return result(desk, 7).replaceAll("/1$", "");
+            case 1:
+                return "abc".substring(first, first + 1);
+            case 2:
+                return "[" + first + "+" + second + "]";
+            case 3:
+                return "[" + first + "*" + second + "]";
+            default:
+                return "[" + first + "^" + second + "]";
+        }
+    }
+
     /** A result as a text p/q. */
     static String result(GradientDesk desk, int r) {
         String minus = desk.sign(r) < 0 ? "-" : "";

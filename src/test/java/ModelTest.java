@@ -2,20 +2,20 @@ import java.util.Random;
 
 /** Long runs of calls, ordinary and wrong ones, on the desk and on the model of the document. */
 public final class ModelTest {
-    private static final int RUNS = 400;
+    private static final int RUNS = 300;
     private static final int CALLS = 512;
 
     private final GradientDesk desk = new GradientDesk();
     private final Model model = new Model();
     private final Random random;
     private final int run;
-    /** Some runs are about small expressions, some about deep ones, some about long numbers. */
+    /** 0 and 1: small numbers; 2 and 3: long ones; 4: also long results; 5: long expressions. */
     private final int manner;
 
     private ModelTest(int run) {
         this.run = run;
         this.random = new Random(run);
-        this.manner = run % 4;
+        this.manner = run % 6;
     }
 
     public static void main(String[] args) {
@@ -31,6 +31,54 @@ public final class ModelTest {
     }
 
     private void step() {
+        if (manner == 4 && random.nextInt(3) == 0) {
+            grow();
+        } else if (manner == 5 && random.nextInt(3) == 0) {
+            build();
+        } else {
+            call();
+        }
+        same("place()", () -> desk.place(), () -> model.place);
+        same("made()", () -> desk.made(), () -> model.nodes.size());
+    }
+
+    /** Results get long only where they are multiplied, and added to one another, again and again. */
+    private void grow() {
+        int r = random.nextInt(8);
+        int i = notZero();
+        int j = notZero();
+        if (model.results[i].p().signum() == 0) {
+            gradient();
+            return;
+        }
+        reckon(random.nextInt(4) == 0 ? random.nextInt(2) : 2, r, i, j);
+        same("compare(" + r + ", " + j + ")", () -> desk.compare(r, j), () -> model.compare(r, j));
+        same("compare(" + i + ", " + r + ")", () -> desk.compare(i, r), () -> model.compare(i, r));
+    }
+
+    private int notZero() {
+        int r = random.nextInt(8);
+        for (int k = 0; k < 8 && model.results[r].p().signum() == 0; k++) {
+            r = (r + 1) % 8;
+        }
+        return r;
+    }
+
+    /** Expressions get long only where one name is built upon again and again. */
+    private void build() {
+        int name = random.nextInt(3);
+        char letter = (char) ('A' + name);
+        if (model.names[name] == null || random.nextInt(12) == 0) {
+            enter("abc".charAt(name) + (random.nextBoolean() ? "" : "*" + random.nextInt(100)), name);
+            return;
+        }
+        String[] more = {letter + "+" + letter, letter + "-" + atom(0), atom(0) + "*" + letter, letter + "^2",
+            letter + "+" + atom(0), "-" + letter, letter + "*" + atom(0), atom(0) + "+" + letter};
+        enter(more[random.nextInt(more.length)], name);
+        write(name);
+    }
+
+    private void call() {
         switch (random.nextInt(22)) {
             case 0, 1, 2, 3, 4, 5 -> typeAndDefine();
             case 6 -> typeOdd();
@@ -41,13 +89,11 @@ public final class ModelTest {
             case 12, 13 -> set();
             case 14 -> gradient();
             case 15 -> along();
-            case 16, 17, 18 -> reckon();
+            case 16, 17, 18 -> reckon(index(3), index(8), index(8), index(8));
             case 19 -> compare();
-            case 20 -> write();
+            case 20 -> write(name());
             default -> rare();
         }
-        same("place()", () -> desk.place(), () -> model.place);
-        same("made()", () -> desk.made(), () -> model.nodes.size());
     }
 
     private void rare() {
@@ -73,16 +119,16 @@ public final class ModelTest {
         if (text.length() > 64) {
             text = text.substring(0, random.nextInt(65));
         }
+        enter(text, name());
+    }
+
+    private void enter(String text, int name) {
         int start = 0;
         while (start < text.length()) {
             int n = Math.min(1 + random.nextInt(8), text.length() - start);
             type(Check.packed(text, start, n) | (n < 8 ? random.nextLong() << 8 * n : 0), n);
             start += n;
         }
-        define(name(), text);
-    }
-
-    private void define(int name, String text) {
         same("define(" + name + ") of " + text, () -> desk.define(name), () -> model.define(name));
     }
 
@@ -121,7 +167,7 @@ public final class ModelTest {
 
     private String factor(int depth) {
         String minus = random.nextInt(5) == 0 ? "-".repeat(1 + random.nextInt(3)) : "";
-        String power = random.nextInt(4) == 0 ? "^" + random.nextInt(manner == 3 ? 10 : 5) : "";
+        String power = random.nextInt(4) == 0 ? "^" + random.nextInt(manner == 3 || manner == 4 ? 10 : 5) : "";
         return minus + atom(depth) + power;
     }
 
@@ -139,7 +185,7 @@ public final class ModelTest {
                 return "ABCDEFGH".substring(n, n + 1);
             }
         }
-        int most = manner < 2 ? 6 : 10000;
+        int most = manner < 2 || manner == 5 ? 6 : 10000;
         String number = Integer.toString(random.nextInt(most));
         int bottom = 1 + random.nextInt(most - 1);
         return random.nextInt(3) == 0 ? number + "/" + bottom : number;
@@ -200,11 +246,7 @@ public final class ModelTest {
         lookAtResult(5);
     }
 
-    private void reckon() {
-        int what = index(3);
-        int r = index(8);
-        int i = index(8);
-        int j = index(8);
+    private void reckon(int what, int r, int i, int j) {
         same("reckon(" + what + ", " + r + ", " + i + ", " + j + ")",
                 () -> desk.reckon(what, r, i, j) ? 1 : 0, () -> model.reckon(what, r, i, j) ? 1 : 0);
         lookAtResult(r & 7);
@@ -216,8 +258,7 @@ public final class ModelTest {
         same("compare(" + i + ", " + j + ")", () -> desk.compare(i, j), () -> model.compare(i, j));
     }
 
-    private void write() {
-        int name = name();
+    private void write(int name) {
         same("write(" + name + ")", () -> desk.write(name), () -> model.write(name));
         Check.due(where("what was written"), Check.lastWritten(desk), model.lastWritten);
     }
