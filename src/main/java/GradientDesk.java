@@ -1151,7 +1151,7 @@ public final class GradientDesk {
             for (int i = 0; i < size && failure == 0; i++) {
                 char c = text[i];
                 if (isDigit(c)) {
-                    i = takeNumber(text, i, size);
+                    i = Math.max(i, takeNumber(text, i, size));
                 } else if (c == '^') {
                     i++;
                     pushOperand(shelf.makePower(popOperand(), i < size ? text[i] - '0' : 0));

@@ -49,6 +49,7 @@ public final class TextTest {
         }
         int[] wrongCharacters = {0, 31, 127, 128, 225, 255};
         for (int c : wrongCharacters) {
+            Check.dueThrow("type " + c, () -> desk.type(c, 1), Check.ILLEGAL_ARGUMENT);
             Check.dueThrow("type " + c, () -> desk.type('a' | (long) c << 8, 2), Check.ILLEGAL_ARGUMENT);
             Check.dueThrow("type " + c, () -> desk.type(0x61616161616161L | (long) c << 56, 8), Check.ILLEGAL_ARGUMENT);
         }
