@@ -66,6 +66,20 @@ final class Check {
         return desk.define(name);
     }
 
+    /** The text of base^n, for n up to 809. */
+    static String power(String base, int n) {
+        return "((" + base + "^9)^9)^" + n / 81 + "*(" + base + "^9)^" + n % 81 / 9 + "*" + base + "^" + n % 9;
+    }
+
+    /** H becomes longer by one part at a time, until there are so many. */
+    static void fill(GradientDesk desk, int count) {
+        define(desk, "a+b", 7);
+        for (int k = 0; k < 200 && desk.made() < count; k++) {
+            define(desk, "H+b", 7);
+        }
+        due("parts that were made to fill", desk.made(), count);
+    }
+
     static String written(GradientDesk desk, int name) {
         int n = desk.write(name);
         if (n < 0) {

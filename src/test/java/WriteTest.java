@@ -5,6 +5,9 @@ public final class WriteTest {
         lengths();
         longNumbers();
         powers();
+        atTheLimit();
+        noExpressionWrittenYet();
+        whatStays();
         refuses();
         Check.end();
     }
@@ -105,6 +108,75 @@ public final class WriteTest {
         Check.due("32 powers", desk.write(0), 32 * 3 + 31 * 3);
         Check.define(desk, "A+A", 0);
         Check.due("64 powers", desk.write(0), GradientDesk.LARGE);
+    }
+
+    /** The last part that is written ends at character 250, or at 251. */
+    private static void atTheLimit() {
+        atTheLimit(241, "1234+A", "B^2", 250);
+        atTheLimit(245, "7+A", "B^2", GradientDesk.LARGE);
+        atTheLimit(245, "A+12", "B", 250);
+        atTheLimit(245, "A+123", "B", GradientDesk.LARGE);
+        atTheLimit(245, "12*A", "B", 250);
+        atTheLimit(245, "123*A", "B", GradientDesk.LARGE);
+        atTheLimit(241, "A+(0-1/21)", "B", 249);
+        atTheLimit(241, "A+(0-1/321)", "B", 250);
+        atTheLimit(241, "A+(0-1/4321)", "B", GradientDesk.LARGE);
+        atTheLimit(241, "(0-1/321)+A", "B", 250);
+        atTheLimit(241, "(0-1/4321)+A", "B", GradientDesk.LARGE);
+        atTheLimit(241, "1+A", "c+B", 249);
+        atTheLimit(241, "12+A", "c+B", 250);
+        atTheLimit(241, "123+A", "c+B", GradientDesk.LARGE);
+        atTheLimit(241, "12+A", "B*c", 250);
+        atTheLimit(241, "123+A", "B*c", GradientDesk.LARGE);
+    }
+
+    private static void atTheLimit(int n, String b, String c, int due) {
+        GradientDesk desk = sumOf(n);
+        Check.define(desk, "a*b", 3);
+        desk.write(3);
+        Check.define(desk, b, 1);
+        Check.define(desk, c, 2);
+        Check.due("write of " + c + " with " + b + " and " + n, desk.write(2), due);
+        Check.due("characters", Check.lastWritten(desk).length(), due < 0 ? 5 : due);
+        if (due > 0) {
+            Check.dueThrow("none behind the last", () -> desk.written(due), Check.OUT_OF_BOUNDS);
+        } else {
+            Check.due("what was written last", Check.lastWritten(desk), "(a*b)");
+        }
+    }
+
+    private static void noExpressionWrittenYet() {
+        GradientDesk desk = sumOf(253);
+        Check.dueThrow("nothing is written yet", () -> desk.written(0), Check.OUT_OF_BOUNDS);
+        Check.due("too long", desk.write(0), GradientDesk.LARGE);
+        Check.dueThrow("still nothing", () -> desk.written(0), Check.OUT_OF_BOUNDS);
+        Check.define(desk, "c", 0);
+        Check.dueThrow("still nothing", () -> desk.written(0), Check.OUT_OF_BOUNDS);
+        Check.due("one character", desk.write(0), 1);
+        Check.due("character 0", desk.written(0), 'c');
+        Check.dueThrow("character 1", () -> desk.written(1), Check.OUT_OF_BOUNDS);
+    }
+
+    private static void whatStays() {
+        GradientDesk desk = new GradientDesk();
+        Check.define(desk, "a+b", 0);
+        desk.write(0);
+        Check.define(desk, "a*c", 0);
+        desk.derive(0, 0, 1);
+        desk.gradient(0);
+        Check.type(desk, "a+");
+        Check.due("what was written stays", Check.lastWritten(desk), "(a+b)");
+        desk.clear();
+        Check.due("what was written stays behind clear()", Check.lastWritten(desk), "(a+b)");
+        Check.dueThrow("A is gone", () -> desk.write(0), Check.NO_SUCH_ELEMENT);
+        Check.due("what was written stays behind what throws", Check.lastWritten(desk), "(a+b)");
+        Check.due("the text has stayed", desk.type('c', 1), 3);
+        desk.define(0);
+        desk.write(0);
+        Check.due("the next one", Check.lastWritten(desk), "(a+c)");
+        Check.define(desk, "7", 0);
+        desk.write(0);
+        Check.due("nothing of the longer one is left", Check.lastWritten(desk), "7");
     }
 
     private static void refuses() {
