@@ -24,7 +24,8 @@ public final class LongRunTest {
         derivesUntilNothingIsLeft();
         typesWithoutRoom();
         clearsAgainAndAgain();
-        for (int seed = 0; seed < RUNS; seed++) {
+        int runs = args.length > 0 ? Integer.parseInt(args[0]) : RUNS;
+        for (int seed = 0; seed < runs; seed++) {
             new LongRunTest("long text", seed).longTexts();
             new LongRunTest("full shelf", seed).fullShelf();
             new LongRunTest("long numbers", seed).longNumbers();

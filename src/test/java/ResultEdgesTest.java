@@ -19,6 +19,8 @@ public final class ResultEdgesTest {
         endsOfADirection();
         resultsOfOthersStay();
         derivativesWithoutRoom();
+        partsThatStandWhereOthersStood();
+        quotientsOfOnes();
         Check.end();
     }
 
@@ -64,8 +66,10 @@ public final class ResultEdgesTest {
         put(desk, 0, "3/5");
         Check.due(base + "^" + n, desk.bits(1, which), n + 1);
         reckoned(desk, n < 1000);
-        // A result that is too long may still be replaced, and be compared.
+        // A result that is too long may still be compared, and become another one.
         Check.due("compare", desk.compare(1, 1), 0);
+        Check.due("a long one is replaced", desk.reckon(0, 1, 0, 0) ? 1 : 0, 1);
+        Check.due("6/5", Check.result(desk, 1), "6/5");
         put(desk, 1, "7");
         reckoned(desk, true);
     }
@@ -398,5 +402,53 @@ public final class ResultEdgesTest {
         desk.along(3, 1, -2, 0);
         Check.due("along", Check.result(desk, 5), "4/1");
         Check.due("no part more", desk.made(), 200);
+    }
+
+    /** Behind clear() a number has the place of another sort of part, and is worked out by itself. */
+    private static void partsThatStandWhereOthersStood() {
+        String[] texts = {"a", "5/3", "b", "c", "0", "7*a", "a^2", "b*c", "a+c", "(a+b)^2*c", "1/3*b"};
+        for (String before : texts) {
+            for (String text : texts) {
+                GradientDesk desk = new GradientDesk();
+                point(desk);
+                Check.define(desk, before, 0);
+                desk.gradient(0);
+                desk.clear();
+                Check.define(desk, text, 0);
+                GradientDesk fresh = new GradientDesk();
+                point(fresh);
+                Check.define(fresh, text, 0);
+                sameGradient(text + " behind " + before, desk, fresh);
+            }
+        }
+    }
+
+    private static void point(GradientDesk desk) {
+        desk.set(0, 2, 11);
+        desk.set(1, 3, 13);
+        desk.set(2, 5, 17);
+    }
+
+    private static void sameGradient(String what, GradientDesk desk, GradientDesk fresh) {
+        desk.gradient(0);
+        fresh.gradient(0);
+        for (int r = 0; r < 4; r++) {
+            Check.due("gradient of " + what, Check.result(desk, r), Check.result(fresh, r));
+        }
+    }
+
+    /** Where all digits of a quotient are as high as can be, a long division is wrong most easily. */
+    private static void quotientsOfOnes() {
+        for (int n = 60; n <= 200; n++) {
+            GradientDesk desk = new GradientDesk();
+            put(desk, 0, "2", n);
+            put(desk, 1, "1");
+            desk.reckon(1, 0, 0, 1);
+            put(desk, 1, "9999^9*9998^9");
+            put(desk, 2, "1/9999^9*1/9998^9");
+            desk.reckon(2, 3, 0, 1);
+            desk.reckon(2, 3, 3, 2);
+            Check.due("2^" + n + "-1", Check.result(desk, 3), ONE.shiftLeft(n).subtract(ONE) + "/1");
+        }
     }
 }

@@ -3,6 +3,7 @@ public final class TakenBackTest {
     public static void main(String[] args) {
         needsSoManyParts();
         derivativeNeedsSoManyParts();
+        derivativeWhoseNumbersAreThere();
         largeGoesBeforeFull();
         theFirstPartCounts();
         derivativeOfBothLimits();
@@ -59,6 +60,18 @@ public final class TakenBackTest {
             Check.due("derivative with room for " + left, part, full ? GradientDesk.FULL : 205 - left);
             Check.due("made()", desk.made(), full ? 200 - left : 206 - left);
             Check.due("D", Check.written(desk, 3), full ? "(a^3*b)" : "((3*a^2)*b)");
+        }
+    }
+
+    /** What is too many is the power, or the product behind it, and then nothing more is made. */
+    private static void derivativeWhoseNumbersAreThere() {
+        for (int left = 0; left <= 3; left++) {
+            GradientDesk desk = new GradientDesk();
+            Check.define(desk, "a^3+0*1*3", 0);
+            Check.due("a^3", Check.written(desk, 0), "a^3");
+            Check.fill(desk, 200 - left);
+            Check.due("with room for " + left, desk.derive(0, 0, 1), left < 2 ? GradientDesk.FULL : 201 - left);
+            Check.due("made()", desk.made(), left < 2 ? 200 - left : 202 - left);
         }
     }
 
