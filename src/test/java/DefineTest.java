@@ -266,5 +266,17 @@ public final class DefineTest {
         Check.due("the point stays", Check.result(desk, 0), "9/16");
         desk.clear();
         Check.due("UNKNOWN behind clear()", Check.define(desk, "F", 0), GradientDesk.UNKNOWN);
+        State.stays("clear() where nothing is", GradientDesk::new, GradientDesk::clear);
+        State.stays("clear() twice", DefineTest::cleared, GradientDesk::clear);
+    }
+
+    private static GradientDesk cleared() {
+        GradientDesk desk = new GradientDesk();
+        Check.define(desk, "a+", 0);
+        Check.define(desk, "a*7", 0);
+        desk.set(1, 3, 4);
+        Check.type(desk, "-b+");
+        desk.clear();
+        return desk;
     }
 }
