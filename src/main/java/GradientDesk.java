@@ -59,11 +59,11 @@ public final class GradientDesk {
         }
         divider = new Divider();
         reckoner = new Reckoner();
-        shelf = new Shelf(reckoner, divider);
+        shelf = new Shelf();
         grammar = new Grammar();
-        maker = new Maker(shelf);
-        slopes = new Slopes(shelf, divider);
-        scribe = new Scribe(shelf);
+        maker = new Maker();
+        slopes = new Slopes();
+        scribe = new Scribe();
     }
 
     public int type(long w, int n) throws IllegalArgumentException, IllegalStateException {
@@ -92,7 +92,7 @@ public final class GradientDesk {
             return UNKNOWN;
         }
         int before = shelf.count;
-        return keep(maker.makeText(text, size, names), name, before);
+        return keep(maker.makeText(shelf, text, size, names), name, before);
     }
 
     public int place() {
@@ -169,10 +169,10 @@ public final class GradientDesk {
         needName(name);
         needExpression(name);
         for (int v = 0; v < VARIABLES; v++) {
-            slopes.workOut(names[name], v == 0 ? 1 : 0, v == 1 ? 1 : 0, v == 2 ? 1 : 0);
-            slopes.giveSlope(names[name], results[1 + v]);
+            slopes.workOut(shelf, names[name], v == 0 ? 1 : 0, v == 1 ? 1 : 0, v == 2 ? 1 : 0);
+            slopes.giveSlope(names[name], divider, results[1 + v]);
         }
-        slopes.giveValue(names[name], results[0]);
+        slopes.giveValue(names[name], divider, results[0]);
     }
 
     public void along(int name, int x, int y, int z)
@@ -182,9 +182,9 @@ public final class GradientDesk {
             throw new IllegalArgumentException();
         }
         needExpression(name);
-        slopes.workOut(names[name], x, y, z);
-        slopes.giveValue(names[name], results[4]);
-        slopes.giveSlope(names[name], results[5]);
+        slopes.workOut(shelf, names[name], x, y, z);
+        slopes.giveValue(names[name], divider, results[4]);
+        slopes.giveSlope(names[name], divider, results[5]);
     }
 
     public boolean reckon(int what, int r, int i, int j)
@@ -238,7 +238,7 @@ public final class GradientDesk {
     public int write(int name) throws IllegalArgumentException, NoSuchElementException {
         needName(name);
         needExpression(name);
-        return scribe.writePart(names[name]);
+        return scribe.writePart(shelf, names[name]);
     }
 
     public int written(int i) throws IndexOutOfBoundsException {
@@ -832,12 +832,10 @@ public final class GradientDesk {
         int count;
         final boolean[] marked = new boolean[PARTS];
         private final int[] derivatives = new int[PARTS];
-        private final Reckoner reckoner;
-        private final Divider divider;
+        private final Reckoner reckoner = new Reckoner();
+        private final Divider divider = new Divider();
 
-        Shelf(Reckoner reckoner, Divider divider) {
-            this.reckoner = reckoner;
-            this.divider = divider;
+        Shelf() {
             for (int i = 0; i < PARTS; i++) {
                 row[i] = new Part();
             }
@@ -1131,7 +1129,6 @@ public final class GradientDesk {
         /** A - of a factor, to tell it from the - between two terms. */
         private static final char NEGATIVE = '~';
 
-        private final Shelf shelf;
         private final int[] operands = new int[TEXT_ROOM];
         private final char[] operators = new char[TEXT_ROOM];
         private int operandCount;
@@ -1139,11 +1136,7 @@ public final class GradientDesk {
         private boolean factorDue;
         private int failure;
 
-        Maker(Shelf shelf) {
-            this.shelf = shelf;
-        }
-
-        int makeText(char[] text, int size, int[] names) {
+        int makeText(Shelf shelf, char[] text, int size, int[] names) {
             operandCount = 0;
             operatorCount = 0;
             factorDue = true;
@@ -1151,7 +1144,7 @@ public final class GradientDesk {
             for (int i = 0; i < size && failure == 0; i++) {
                 char c = text[i];
                 if (isDigit(c)) {
-                    i = Math.max(i, takeNumber(text, i, size));
+                    i = Math.max(i, takeNumber(shelf, text, i, size));
                 } else if (c == '^') {
                     i++;
                     pushOperand(shelf.makePower(popOperand(), i < size ? text[i] - '0' : 0));
@@ -1162,16 +1155,16 @@ public final class GradientDesk {
                 } else if (c == '(' || factorDue) {
                     pushOperator(c == '-' ? NEGATIVE : c);
                 } else {
-                    applyAll(rank(c));
+                    applyAll(shelf, rank(c));
                     takeOperator(c);
                 }
             }
-            applyAll(rank(')'));
+            applyAll(shelf, rank(')'));
             return failure < 0 ? failure : popOperand();
         }
 
         /** Answers the place of the number's last character. */
-        private int takeNumber(char[] text, int start, int size) {
+        private int takeNumber(Shelf shelf, char[] text, int start, int size) {
             int upper = 0;
             int lower = 0;
             boolean below = false;
@@ -1199,7 +1192,7 @@ public final class GradientDesk {
         }
 
         /** Applies what waits behind the last open bracket and binds at least as much. */
-        private void applyAll(int least) {
+        private void applyAll(Shelf shelf, int least) {
             while (operatorCount > 0 && failure == 0 && rank(operators[operatorCount - 1]) >= least) {
                 operatorCount--;
                 char operator = operators[operatorCount];
@@ -1259,8 +1252,6 @@ public final class GradientDesk {
      * So only what is asked for is ever divided by a common divisor; DEGREE and SIZES keep it short.
      */
     private static final class Slopes {
-        private final Shelf shelf;
-        private final Divider divider;
         private final int[] pointUpper = new int[VARIABLES];
         private final int[] pointLower = new int[VARIABLES];
         private final int[] direction = new int[VARIABLES];
@@ -1271,9 +1262,7 @@ public final class GradientDesk {
         private final Whole factor = new Whole(SLOPE_DIGITS);
         private final Whole work = new Whole(SLOPE_DIGITS);
 
-        Slopes(Shelf shelf, Divider divider) {
-            this.shelf = shelf;
-            this.divider = divider;
+        Slopes() {
             Arrays.fill(pointLower, 1);
             for (int i = 0; i < PARTS; i++) {
                 values[i] = new Whole(SLOPE_DIGITS);
@@ -1292,7 +1281,7 @@ public final class GradientDesk {
         }
 
         /** Works out an expression and its slope along a direction. */
-        void workOut(int root, int x, int y, int z) {
+        void workOut(Shelf shelf, int root, int x, int y, int z) {
             direction[0] = x;
             direction[1] = y;
             direction[2] = z;
@@ -1304,12 +1293,14 @@ public final class GradientDesk {
             }
         }
 
-        void giveValue(int root, Fraction target) {
+        void giveValue(int root, Divider divider, Fraction target) {
             give(root, values[root], target);
+            divider.reduce(target);
         }
 
-        void giveSlope(int root, Fraction target) {
+        void giveSlope(int root, Divider divider, Fraction target) {
             give(root, slopes[root], target);
+            divider.reduce(target);
         }
 
         private void give(int root, Whole upper, Fraction target) {
@@ -1319,7 +1310,6 @@ public final class GradientDesk {
             }
             target.p.copy(upper);
             target.q.copy(factor);
-            divider.reduce(target);
         }
 
         private void workPart(int i, Part part) {
@@ -1417,7 +1407,6 @@ public final class GradientDesk {
     private static final class Scribe {
         final char[] kept = new char[WRITTEN_ROOM];
         int keptSize;
-        private final Shelf shelf;
         private final char[] draft = new char[WRITTEN_ROOM];
         private int draftSize;
         private boolean tooLong;
@@ -1427,11 +1416,7 @@ public final class GradientDesk {
         private final char[] decimals = new char[WRITTEN_ROOM];
         private final Whole work = new Whole(PART_DIGITS);
 
-        Scribe(Shelf shelf) {
-            this.shelf = shelf;
-        }
-
-        int writePart(int root) {
+        int writePart(Shelf shelf, int root) {
             draftSize = 0;
             waitingCount = 0;
             tooLong = false;
@@ -1439,7 +1424,7 @@ public final class GradientDesk {
             // Each turn writes a character or opens a power, and each part opened will still write one.
             for (int turn = 0; turn < 4 * WRITTEN_ROOM && waitingCount > 0 && !tooLong; turn++) {
                 waitingCount--;
-                writeNext(waiting[waitingCount]);
+                writeNext(shelf, waiting[waitingCount]);
             }
             if (tooLong) {
                 return LARGE;
@@ -1449,7 +1434,7 @@ public final class GradientDesk {
             return keptSize;
         }
 
-        private void writeNext(int next) {
+        private void writeNext(Shelf shelf, int next) {
             if (next < 0) {
                 writeCharacter((char) -next);
                 return;
